@@ -110,6 +110,7 @@ public final class BaleTallies {
     }
 
     public int is(int what) {
+        tallies.refresh();
         switch (what) {
             case 0:
                 return cargo.billCount;
@@ -118,7 +119,6 @@ public final class BaleTallies {
             case 2:
                 return cargo.signs.couples;
             case 3:
-                tallies.refresh();
                 return tallies.heapCount;
             case 4:
                 return cargo.limit;
@@ -210,7 +210,7 @@ public final class BaleTallies {
     }
 
     public int heap(int h, int what) {
-        tallies.refresh();
+        matchAll();
         if (!within(h, 0, tallies.heapCount - 1)) {
             return NONE;
         }
@@ -225,7 +225,6 @@ public final class BaleTallies {
             case 3:
                 return tallies.agreed[source];
             case 4:
-                matching.refresh();
                 return matching.yet[source];
             default:
                 return NONE;
@@ -236,7 +235,7 @@ public final class BaleTallies {
         if (!isBill(b)) {
             return NONE;
         }
-        matching.refresh();
+        matchAll();
         switch (what) {
             case 0:
                 return tallies.ship[b];
@@ -262,12 +261,11 @@ public final class BaleTallies {
     }
 
     public int brought(int s, int b) {
-        tallies.refresh();
-        boolean isHeap = within(s, MOST_BILLS, MOST_BILLS + tallies.heapCount - 1);
+        matchAll();
+        boolean isHeap = within(s, MOST_BILLS, matching.sources - 1);
         if (!isBill(b) || !isBill(s) && !isHeap) {
             return NONE;
         }
-        matching.refresh();
         return matching.moved[s][b];
     }
 
@@ -275,7 +273,7 @@ public final class BaleTallies {
         if (!within(what, 0, 1)) {
             return NONE;
         }
-        matching.refresh();
+        matchAll();
         return what == 0 ? matching.bales : matching.apartInAll;
     }
 
@@ -283,6 +281,7 @@ public final class BaleTallies {
         if (!within(what, 0, 1)) {
             return NONE;
         }
+        matchAll();
         flow.refresh();
         return what == 0 ? flow.bales : flow.apartInAll;
     }
@@ -353,7 +352,7 @@ public final class BaleTallies {
         if (b != NONE && !isBill(b)) {
             return WRONG;
         }
-        matching.refresh();
+        matchAll();
         if (b != NONE) {
             return paidFor(b);
         }
@@ -375,6 +374,7 @@ public final class BaleTallies {
         if (!isHold(hold)) {
             return NONE;
         }
+        tallies.refresh();
         switch (what) {
             case 0:
             case 1:
@@ -444,7 +444,11 @@ public final class BaleTallies {
     }
 
     public int shed(int b) {
-        return isBill(b) ? balesInShed(b) : NONE;
+        if (!isBill(b)) {
+            return NONE;
+        }
+        matchAll();
+        return balesInShed(b);
     }
 
     public int days(int n) {
@@ -467,7 +471,11 @@ public final class BaleTallies {
     }
 
     public int deliver(int b, int n) {
-        if (!isBill(b) || !within(n, 1, balesInShed(b))) {
+        if (!isBill(b)) {
+            return NONE;
+        }
+        matchAll();
+        if (!within(n, 1, balesInShed(b))) {
             return NONE;
         }
         int charge = n * cargo.chargeEach();
@@ -482,6 +490,7 @@ public final class BaleTallies {
     }
 
     public int settled(int k) {
+        tallies.refresh();
         if (!settling.gather()) {
             return NONE;
         }
@@ -579,13 +588,18 @@ public final class BaleTallies {
         }
     }
 
+    /** Whoever looks at what is matched asks for this first. */
+    private void matchAll() {
+        tallies.refresh();
+        matching.refresh();
+    }
+
     private int paidFor(int b) {
         Bill bill = cargo.bills[b];
         return bill.worthOf(Math.min(bill.claim, matching.lack[b]), Math.min(bill.worth, cargo.pack));
     }
 
     private int balesInShed(int b) {
-        matching.refresh();
         Bill bill = cargo.bills[b];
         int landed = Math.min(tallies.agreed[b], bill.dueBales());
         return Math.max(0, landed + matching.broughtTo(b) - bill.delivered);
@@ -648,8 +662,8 @@ public final class BaleTallies {
             return true;
         }
 
-        boolean atDigit() {
-            return within(next(), '0', '9');
+        static boolean isDigit(int octet) {
+            return octet >= '0' && octet <= '9';
         }
 
         /** A digit from 0 to the highest, or NONE, which is a fault. */
@@ -665,16 +679,15 @@ public final class BaleTallies {
 
         int digits(int most) {
             int value = 0;
-            for (int i = 0; i < most && atDigit(); i++) {
-                value = value * 10 + next() - '0';
-                at++;
+            for (int last = Math.min(size, at + most); at < last && isDigit(bytes[at]); at++) {
+                value = value * 10 + bytes[at] - '0';
             }
             return value;
         }
 
         /** A number that does not begin with 0, or 0, which is a fault. */
         int amount(int most) {
-            if (!atDigit() || next() == '0') {
+            if (!isDigit(next()) || next() == '0') {
                 fail(at);
                 return 0;
             }
@@ -951,7 +964,12 @@ public final class BaleTallies {
             int items = 0;
             tape.rewind();
             while (items < MOST_BYTES && tape.at < tape.size) {
-                if (!takeItem(tape)) {
+                int kind = tape.next();
+                boolean well = kind == 'b' ? takeBill(tape)
+                    : kind == '~' ? takeCouple(tape)
+                    : kind == 't' ? takeLine(tape)
+                    : tape.fail(tape.at);
+                if (!well) {
                     return NONE;
                 }
                 items++;
@@ -960,19 +978,6 @@ public final class BaleTallies {
                 keepMeasured(0);
             }
             return items;
-        }
-
-        private boolean takeItem(Tape tape) {
-            switch (tape.next()) {
-                case 'b':
-                    return takeBill(tape);
-                case '~':
-                    return takeCouple(tape);
-                case 't':
-                    return takeLine(tape);
-                default:
-                    return tape.fail(tape.at);
-            }
         }
 
         private boolean takeBill(Tape tape) {
@@ -1302,7 +1307,7 @@ public final class BaleTallies {
                 tape.at++;
                 return takeSum(tape, depth + 1) && tape.skip(')');
             }
-            if (tape.atDigit()) {
+            if (Tape.isDigit(sign)) {
                 add(tape.digits(MOST_DIGITS));
                 return true;
             }
@@ -1440,7 +1445,6 @@ public final class BaleTallies {
 
         /** How many lines are DOUBTFUL, STRANGE, or, for 0, read. */
         int linesThatAre(int what) {
-            refresh();
             int many = 0;
             for (int k = 0; k < cargo.lineCount; k++) {
                 if (Math.min(0, reading[k]) == what) {
@@ -1451,7 +1455,6 @@ public final class BaleTallies {
         }
 
         int unreadIn(int hold) {
-            refresh();
             int many = 0;
             for (int k = 0; k < cargo.lineCount; k++) {
                 if (cargo.lines[k].hold == hold && reading[k] < 0) {
@@ -1483,7 +1486,6 @@ public final class BaleTallies {
         }
 
         void refresh() {
-            tallies.refresh();
             if (fresh) {
                 return;
             }
@@ -1571,7 +1573,6 @@ public final class BaleTallies {
         }
 
         void refresh() {
-            matching.refresh();
             if (fresh) {
                 return;
             }

@@ -231,7 +231,7 @@ public final class ModelTest {
                 both("deliver(" + a + "," + n + ")", x.deliver(a, n), m.deliver(a, n));
                 break;
             case 17: case 18:
-                int many = chance(6) ? 25 : 1 + random.nextInt(3);
+                int many = chance(20) ? 25 : 1 + random.nextInt(3);
                 for (int i = 0; i < many; i++) {
                     both("back()", x.back(), m.back());
                 }
