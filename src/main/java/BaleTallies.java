@@ -1080,7 +1080,10 @@ public final class BaleTallies {
             return struck;
         }
 
-        /** The line that stood free; the struck one has its place among the lines again. */
+        /**
+         * The line that stood free; the struck one has its place among the lines again. Deeds go back in
+         * turn, so bills and couples are those of when it was struck, and what was measured still holds.
+         */
         Line putBack(int k, Line struck) {
             if (lineCount >= MOST_LINES) {
                 return struck;
@@ -1090,8 +1093,6 @@ public final class BaleTallies {
                 lines[i] = lines[i - 1];
             }
             lines[k] = struck;
-            // Couples and bills may have been others while the line was out.
-            struck.measured = 0;
             lineCount++;
             return spare;
         }

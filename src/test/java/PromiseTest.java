@@ -117,12 +117,14 @@ public final class PromiseTest {
             "bA:999*", "bA:999*0;", "bA:999*10000;", "bA:999*9999", "bA:999*9999:", "bABCDEFGHI:1*1;", " bA:1*1;",
             "bA:1*1; ", "~", "~A", "~A;", "~.A;", "~A.;", "~AB", "~ABC;", "~AB;;", "t", "t2@0:A#1;", "t:", "t0",
             "t0:", "t0@", "t0@5:A#1;", "t0@0", "t0@0A#1;", "t0@0:", "t0@0:#1;", "t0@0:.........#1;", "t0@0:A",
-            "t0@0:A:1;", "t0@0:A#", "t0@0:A#0;", "t0@0:A#1000;", "t0@0:A#1", "t0@0:A#1:", "t-1@0:A#1;", ";"};
+            "t0@0:A:1;", "t0@0:A#", "t0@0:A#0;", "t0@0:A#1000;", "t0@0:A#1", "t0@0:A#1:", "t-1@0:A#1;", ";", "~;",
+            "b;", "bA;", "bA:*1;", "bA:1*;", "t;", "t0;", "t0@;", "t0@0;", "t0@0:;", "t0@0:A;", "t0@0:A#;"};
         int[] places = {0, 1, 1, 1, 1, 2, 3, 3, 3, 4, 4, 6,
             7, 7, 11, 11, 11, 9, 0,
             7, 1, 2, 2, 1, 2, 3, 3, 4, 1, 1, 1, 2,
             2, 3, 3, 4, 4, 5, 5, 13, 6,
-            6, 7, 7, 10, 8, 8, 1, 0};
+            6, 7, 7, 10, 8, 8, 1, 0, 1,
+            1, 2, 3, 5, 1, 2, 3, 4, 5, 6, 7};
         for (int i = 0; i < texts.length; i++) {
             due(texts[i], Checks.faultOf(x, texts[i]), places[i]);
         }
@@ -455,10 +457,26 @@ public final class PromiseTest {
         due("the near one then", y.best(1), 2);
         due("at first", new BaleTallies().best(0), 0);
         due("at first", new BaleTallies().best(1), 0);
+        chain();
         BaleTallies z = Checks.with("bAB:9*1;bCD:9*1;t0@0:A.#5;t1@0:A.#5;");
         z.limit(0);
         due("more than there are", z.best(0), 5);
         due("the nearest", z.best(1), 5);
+    }
+
+    /** A heap can be brought only when another one turns from its nearest bill to the next. */
+    private static void chain() {
+        BaleTallies w = Checks.with("bA:1*1;bAB:1*1;bABC:1*1;t0@0:.#1;t0@0:AX#1;t0@0:ABX#1;");
+        Checks.law(w, "s");
+        w.limit(0);
+        w.far(3);
+        due("the nearest first", w.brought(12, 0), 1);
+        due("then", w.brought(13, 1), 0);
+        due("then", w.brought(14, 1), 1);
+        due("bales", w.matched(0), 2);
+        due("apart", w.matched(1), 1 + 2);
+        due("all three", w.best(0), 3);
+        due("all three", w.best(1), 1 + 3 + 3);
     }
 
     private static void remarks() {
@@ -594,6 +612,15 @@ public final class PromiseTest {
         due("they don't cross", y.against(0, 0), 18);
         due("they don't cross", y.against(0, 1), 2);
         due("like", Checks.with("~O0;t0@0:O0#9;t1@0:0O#9;").against(0, 0), 2);
+        BaleTallies z = Checks.with("t1@0:AAAA#3;t0@0:AAAA#3;t1@0:BBBB#9;t1@0:CCCC#2;t0@0:CCCC#2;t0@0:DDDD#8;");
+        due("those between are left out", z.against(0, 0), 9 + 8);
+        due("those between are left out", z.against(0, 1), 2);
+        BaleTallies full = new BaleTallies();
+        for (int i = 0; i < 6; i++) {
+            Checks.text(full, "t1@0:A#2;".repeat(10));
+        }
+        due("sixty of one side", full.against(0, 0), 120);
+        due("sixty of one side", full.against(0, 1), 60);
         for (int n : new int[] {-1, 5, LOW, HIGH}) {
             due("against(" + n + ",0)", x.against(n, 0), -1);
             due("against(0," + n + ")", x.against(0, n), -1);
@@ -778,6 +805,8 @@ public final class PromiseTest {
         Checks.text(y, "t0@0:A.#5;");
         due("six of them", y.settled(-1), -1);
         due("six of them", y.settled(0), -1);
+        due("one of them", Checks.with("bAA:1*1;bAB:1*1;t0@0:A.#5;").settled(-1), 2);
+        due("one of them", Checks.with("bXX:1*1;bAA:1*1;bAB:1*1;t0@0:A.#5;").settled(0), 1);
         y.back();
         Checks.law(y, "s");
         due("by the law", y.settled(-1), 0);
@@ -817,6 +846,11 @@ public final class PromiseTest {
         w.limit(2);
         due("a couple holds both ways", w.cure(0), 256 * 'O' + 'B');
         due("no bill", Checks.with("t0@0:A#1;").cure(0), -1);
+        BaleTallies v = Checks.with("bA9:1*1;t0@0:ZZ#1;");
+        due("the first sign, the first other", v.cure(0), 256 * 'Z' + 'A');
+        v.limit(0);
+        due("none is near enough", v.cure(0), -1);
+        due("the last other", Checks.with("b999:1*1;t0@0:ZZZ#1;").cure(0), 256 * 'Z' + '9');
     }
 
     private static void strike() {
