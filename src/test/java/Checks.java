@@ -28,7 +28,7 @@ final class Checks {
         BaleTallies x = new BaleTallies();
         run.accept(x);
         due(name, call.applyAsInt(x), want);
-        same(name, Image.of(run), Image.of(run.andThen(call::applyAsInt)));
+        same(name, Image.of(run), Image.of(run.andThen(Checks::ask).andThen(call::applyAsInt)));
     }
 
     /** A text or law that is a fault there; it takes the tape and leaves all else as it was. */
@@ -38,7 +38,7 @@ final class Checks {
         due(name, call.applyAsInt(x), BaleTallies.NONE);
         due(name + ": its fault", x.fault(), place);
         due(name + ": bytes of the tape", x.is(8), 0);
-        same(name, Image.ofCargo(run), Image.ofCargo(run.andThen(call::applyAsInt)));
+        same(name, Image.ofCargo(run), Image.ofCargo(run.andThen(Checks::ask).andThen(call::applyAsInt)));
     }
 
     /** A deed: it is one more, and taken back it leaves all but the tape and the fault's place as it was. */
@@ -49,7 +49,22 @@ final class Checks {
         deed.applyAsInt(x);
         due(name + ": DEEDS", x.is(7), deeds + 1);
         due(name + ": back", x.back(), deeds);
-        same(name + ", taken back", Image.ofCargo(run), Image.ofCargo(run.andThen(deed::applyAsInt).andThen(BaleTallies::back)));
+        Consumer<BaleTallies> again = run.andThen(Checks::ask).andThen(deed::applyAsInt).andThen(Checks::ask);
+        same(name + ", taken back", Image.ofCargo(run), Image.ofCargo(again.andThen(BaleTallies::back)));
+    }
+
+    /** Questions for all that an object may keep once it has worked it out. */
+    private static void ask(BaleTallies x) {
+        for (int k = 0; k < 12; k++) {
+            x.apart(k, 0);
+            x.cure(k);
+        }
+        x.best(0);
+        x.settled(-1);
+        x.settled(4);
+        x.paid(-1);
+        x.against(0, 0);
+        x.worn(0, 0);
     }
 
     void same(String name, List<String> before, List<String> after) {

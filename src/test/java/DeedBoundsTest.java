@@ -17,6 +17,7 @@ public final class DeedBoundsTest {
         backTouchesNothingElse();
         order();
         strikeOfSixty();
+        askedBetween();
         c.finish();
     }
 
@@ -252,6 +253,47 @@ public final class DeedBoundsTest {
                 due("N of " + k + " again", x.line(k, 2), k + 1);
             }
         }
+    }
+
+    /** What was asked ahead of a DEED must not be told behind it. */
+    private static void askedBetween() {
+        c.part("asked ahead of a DEED, and behind it");
+        BaleTallies x = Checks.with("bA:9*1;");
+        Checks.text(x, "t0@0:A#1;");
+        due("LINE A, BILL A", x.apart(0, 0), 0);
+        x.back();
+        Checks.text(x, "t0@0:B#1;");
+        due("LINE B, BILL A", x.apart(0, 0), 3);
+        x.back();
+        x.back();
+        Checks.text(x, "t0@0:B#1;");
+        Checks.text(x, "bAAAA:9*1;");
+        due("LINE B, BILL AAAA", x.apart(0, 0), 9);
+        due("STRANGE", x.read(0), -3);
+        x.back();
+        Checks.text(x, "bB:9*1;");
+        due("LINE B, BILL B", x.apart(0, 0), 0);
+        due("READ", x.read(0), 0);
+        Checks.text(x, "bC:9*1;~BC;");
+        due("LINE B, BILL C, LIKE", x.apart(0, 1), 1);
+        x.back();
+        Checks.text(x, "bC:9*1;");
+        due("LINE B, BILL C, not LIKE", x.apart(0, 1), 3);
+        Checks.text(x, "~BC;");
+        due("LIKE", x.apart(0, 1), 1);
+        x.back();
+        due("taken back", x.apart(0, 1), 3);
+        Checks.text(x, "t1@0:C#2;");
+        due("LINE C, BILL C", x.apart(1, 1), 0);
+        x.strike(0);
+        due("LINE C is the first", x.apart(0, 1), 0);
+        Checks.text(x, "t1@0:BB#2;bBB:1*1;~CB;");
+        due("LINE BB, BILL C, LIKE", x.apart(1, 1), 3);
+        due("LINE C, BILL B, LIKE", x.apart(0, 0), 1);
+        x.back();
+        x.back();
+        due("LINE B is the first again", x.apart(0, 0), 0);
+        due("LINE C, BILL B, not LIKE", x.apart(1, 0), 3);
     }
 
     private static void strikeOfSixty() {

@@ -108,6 +108,14 @@ public final class HoldBoundsTest {
         BaleTallies x = sixty("t0@0:A#999;", "t0@0:A#999;");
         due("one SIDE", x.against(0, 0), 60 * 999);
         due("one SIDE", x.against(0, 1), 60);
+        BaleTallies shores = sixty("t1@0:A#999;", "t1@0:A#999;");
+        due("the other SIDE", shores.against(0, 0), 60 * 999);
+        due("the other SIDE", shores.against(0, 1), 60);
+        BaleTallies one = sixty("t1@0:A#2;", "t1@0:A#2;");
+        one.strike(0);
+        Checks.text(one, "t0@0:A#2;");
+        due("one by 59", one.against(0, 0), 58 * 2);
+        due("one by 59", one.against(0, 1), 58);
         BaleTallies y = sixty("t0@0:A#999;", "t1@0:B#999;");
         due("thirty by thirty", y.against(0, 0), 90);
         due("thirty by thirty", y.against(0, 1), 0);

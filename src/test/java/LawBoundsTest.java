@@ -307,5 +307,37 @@ public final class LawBoundsTest {
         due("the one ahead of it", x.tally(0, 2), 7);
         x.back();
         due("none", x.tally(0, 2), 3);
+        refusedBetween();
+    }
+
+    private static void refusedBetween() {
+        BaleTallies x = landed();
+        due("refused", Checks.law(x, "s+o+"), -1);
+        due("THINGS of the next", Checks.law(x, "c-o"), 2);
+        due("it makes", x.tally(0, 2), 97);
+        due("THINGS of another", Checks.law(x, "s"), 1);
+        x.back();
+        due("the one ahead of it", x.tally(0, 2), 97);
+        due("refused", Checks.law(x, "5+"), -1);
+        due("it stays", x.tally(0, 2), 97);
+        due("THINGS", Checks.law(x, "(o)"), 2);
+        due("it makes", x.tally(0, 2), 3);
+        due("refused", Checks.law(x, "6+"), -1);
+        due("it stays", x.tally(0, 2), 3);
+        x.back();
+        due("the one ahead of it", x.tally(0, 2), 97);
+        due("refused", Checks.law(x, "7+"), -1);
+        due("it stays", x.tally(0, 2), 97);
+        x.back();
+        due("none: the lesser", x.tally(0, 2), 3);
+        for (int i = 0; i < 25; i++) {
+            due("THINGS", Checks.law(x, "s+" + i + "*1"), 3);
+            due("refused", Checks.law(x, "9999+"), -1);
+            due("it makes", x.tally(0, 2), 7 + i);
+        }
+        for (int i = 23; i >= 4; i--) {
+            x.back();
+            due("the one ahead of it", x.tally(0, 2), 7 + i);
+        }
     }
 }

@@ -3,6 +3,7 @@ public final class MatchBoundsTest {
     private static final Checks c = new Checks();
 
     public static void main(String[] args) {
+        shipsAndShores();
         sixRemarks();
         due();
         shortOrOver();
@@ -13,7 +14,11 @@ public final class MatchBoundsTest {
         orderOfCouples();
         best();
         bestWithinFar();
+        bestAgain();
+        bestByTwelve();
+        fromTheFirst();
         most();
+        sixtyHeapsForTwelve();
         claimAndLeft();
         worthAndPackage();
         torn();
@@ -28,6 +33,34 @@ public final class MatchBoundsTest {
 
     private static void due(String call, int got, int want) {
         c.due(call, got, want);
+    }
+
+    private static void shipsAndShores() {
+        c.part("SHIP'S, SHORE'S: N of LINES of that SIDE, together");
+        for (int side = 0; side <= 1; side++) {
+            BaleTallies x = Checks.with("bA:999*1;");
+            for (int i = 0; i < 6; i++) {
+                Checks.text(x, ("t" + side + "@" + i % 5 + ":A#999;").repeat(10));
+            }
+            due("of a BILL, by all LINES", x.tally(0, side), 59940);
+            due("of the other SIDE", x.tally(0, 1 - side), 0);
+            due("AGREED", x.tally(0, 2), 0);
+            Checks.law(x, "s+o");
+            due("AGREED", x.tally(0, 2), 59940);
+            due("OVER", x.tally(0, 5), 59940 - 999);
+        }
+        BaleTallies y = new BaleTallies();
+        for (int i = 0; i < 6; i++) {
+            Checks.text(y, "t0@0:AAAAA#999;t1@4:AAAAA#998;".repeat(5));
+        }
+        due("of a HEAP, the SHIP'S", y.heap(0, 1), 30 * 999);
+        due("of a HEAP, the SHORE'S", y.heap(0, 2), 30 * 998);
+        due("of a HEAP, AGREED", y.heap(0, 3), 30 * 998);
+        BaleTallies z = Checks.with("bAAAA:9*1;bBBBB:9*1;t0@0:AAAA#1;t0@1:AAA.#2;t1@2:BBB#4;t0@3:BBBBB#8;t0@4:AABB#16;");
+        due("READ so, worn or not", z.tally(0, 0), 3);
+        due("READ so, a SIGN more", z.tally(1, 0), 8);
+        due("READ so, a SIGN fewer", z.tally(1, 1), 4);
+        due("READ as none: a HEAP's", z.heap(0, 1), 16);
     }
 
     private static void sixRemarks() {
@@ -263,6 +296,78 @@ public final class MatchBoundsTest {
         due("nothing OVER", Checks.with("bA:9*1;").best(0), 0);
     }
 
+    private static void bestAgain() {
+        c.part("BEST, asked again behind a DEED");
+        // A. reaches AB and ACC; ABX reaches AB alone.
+        BaleTallies x = Checks.with("bAB:1*1;bACC:2*1;t0@0:A.#1;t0@0:ABX#2;");
+        Checks.law(x, "s");
+        x.limit(0);
+        x.far(3);
+        for (int i = 0; i < 3; i++) {
+            due("bales", x.best(0), 2);
+            due("APART in all", x.best(1), 3 + 2);
+            due("MATCHED", x.matched(0), 1);
+            due("MATCHED, APART in all", x.matched(1), 1);
+            x.claim(0, i);
+        }
+        x.strike(1);
+        due("the nearest now", x.best(1), 1);
+        x.back();
+        due("as before", x.best(1), 5);
+    }
+
+    /** Twelve bills, each but the first a SIGN apart from the one ahead of it, and a heap for each two of them. */
+    private static void bestByTwelve() {
+        c.part("BEST, where twelve BILLS take from one another");
+        String[] marks = {"AB", "CB", "CD", "ED", "EF", "GF", "GH", "IH", "IJ", "KJ", "KL", "ML"};
+        String[] heaps = {".B", "C.", ".D", "E.", ".F", "G.", ".H", "I.", ".J", "K.", ".L"};
+        for (int order = 0; order < 4; order++) {
+            StringBuilder text = new StringBuilder();
+            for (int i = 0; i < 12; i++) {
+                text.append('b').append(marks[order % 2 == 0 ? i : 11 - i]).append(":9*1;");
+            }
+            for (int i = 0; i < 11; i++) {
+                text.append("t0@0:").append(heaps[order < 2 ? i : 10 - i]).append("#9;");
+            }
+            BaleTallies x = Checks.with(text.toString());
+            Checks.law(x, "s");
+            x.limit(0);
+            x.far(1);
+            due("eleven", x.best(0), 99);
+            Checks.text(x, "t0@0:A.#4;");
+            due("and four more", x.best(0), 103);
+            due("each by 1", x.best(1), 103);
+            Checks.text(x, "t0@0:M.#5;t0@0:A.#1;");
+            due("all", x.best(0), 108);
+            due("each by 1", x.best(1), 108);
+            Checks.text(x, "t0@0:A.#1;");
+            due("no more", x.best(0), 108);
+            x.far(0);
+            due("none within 0", x.best(0), 0);
+        }
+    }
+
+    private static void fromTheFirst() {
+        c.part("from the first BILL, to the first BILL");
+        BaleTallies x = Checks.with("bAB:1*1;bAC:9*1;t0@0:AB#4;t1@0:AB#4;");
+        due("MATCHED from BILL 0", x.brought(0, 1), 3);
+        due("MATCHED", x.matched(0), 3);
+        due("BEST", x.best(0), 3);
+        due("BEST, APART in all", x.best(1), 9);
+        BaleTallies y = Checks.with("bAB:1*1;bAC:2*1;bXX:3*1;t0@0:AB#4;t1@0:AB#4;");
+        y.far(6);
+        due("MATCHED from BILL 0 to both", y.brought(0, 1) * 10 + y.brought(0, 2), 21);
+        due("BEST from BILL 0 to both", y.best(0), 3);
+        due("BEST, APART in all", y.best(1), 2 * 3 + 6);
+        // ACC takes what A. had brought to AB, once ABX comes to AB.
+        BaleTallies z = Checks.with("bACC:2*1;bAB:1*1;t0@0:A.#1;t0@0:ABX#2;");
+        Checks.law(z, "s");
+        z.limit(0);
+        z.far(3);
+        due("BEST to BILL 0", z.best(0), 2);
+        due("BEST, APART in all", z.best(1), 3 + 2);
+    }
+
     /** Twelve bills all short of 999, and heaps of 999 enough: as many bales as there can be. */
     private static void most() {
         c.part("the most that can be MATCHED");
@@ -290,6 +395,43 @@ public final class MatchBoundsTest {
         x.far(24);
         due("BILLS that are OVER by all they can", x.tally(11, 5), 1000000 - 999);
         due("nothing is SHORT", x.matched(0), 0);
+    }
+
+    private static void full(BaleTallies x) {
+        StringBuilder bills = new StringBuilder("~01;~02;~03;~04;~05;~06;~07;~08;");
+        StringBuilder lines = new StringBuilder();
+        for (int i = 0; i < 12; i++) {
+            bills.append("bAAAAAAA").append((char) ('M' + i)).append(":999*9999;");
+        }
+        for (int i = 0; i < 60; i++) {
+            lines.append("t0@0:").append((char) ('A' + i / 10)).append(i % 10).append("#").append(1 + i % 9).append(';');
+        }
+        Checks.text(x, bills.toString());
+        Checks.text(x, lines.toString());
+        Checks.law(x, "s");
+        x.far(24);
+    }
+
+    private static void sixtyHeapsForTwelve() {
+        c.part("all BILLS, couples and HEAPS that there can be");
+        BaleTallies x = new BaleTallies();
+        full(x);
+        due("BILLS, LINES, couples", x.is(0) * 10000 + x.is(1) * 100 + x.is(2), 126008);
+        due("HEAPS", x.is(3), 60);
+        due("MATCHED", x.matched(0), 291);
+        due("MATCHED, ten HEAPS by 15", x.matched(1), 46 * 15 + 245 * 18);
+        due("BEST", x.best(0), 291);
+        due("BEST, ten HEAPS by 15", x.best(1), 46 * 15 + 245 * 18);
+        due("from the first", x.brought(12, 0), 1);
+        due("from the last", x.brought(71, 0), 6);
+        due("to the last BILL", x.brought(71, 11), 0);
+        due("the first BILL's LEFT", x.tally(0, 6), 999 - 291);
+        due("what the last has yet", x.heap(59, 4), 0);
+        due("sixty of the ship's", x.against(0, 1), 60);
+        c.idle("nothing more is told of it", MatchBoundsTest::full, y -> y.octet(0), -1);
+        x.limit(20);
+        due("all are DOUBTFUL", x.is(10), 60);
+        due("too many to be SETTLED", x.settled(-1), -1);
     }
 
     private static void claimAndLeft() {

@@ -18,6 +18,7 @@ public final class ReadBoundsTest {
         settledLines();
         settledBills();
         settledLikeOnes();
+        settledAnew();
         curedByLimit();
         curedSigns();
         curedCouples();
@@ -319,6 +320,36 @@ public final class ReadBoundsTest {
         }
     }
 
+    private static void settledAnew() {
+        c.part("SETTLED, asked again when all is different");
+        BaleTallies x = Checks.with("bQQQQ:9*1;bAB:1*1;bAC:1*1;t0@0:AB#1;t0@0:AC#1;t0@0:A.#9;");
+        Checks.law(x, "s");
+        due("not as one that is farther, though that would be better", x.settled(-1), 18);
+        due("the least of both", x.settled(2), 1);
+        BaleTallies y = Checks.with("bAB:5*1;bAC:5*1;t0@0:A.#5;t0@0:AC#5;");
+        Checks.law(y, "s");
+        due("it fits", y.settled(-1), 0);
+        due("it fits", y.settled(0), 0);
+        Checks.text(y, "t0@0:AB#5;");
+        due("it fits nowhere", y.settled(-1), 5);
+        due("the least", y.settled(0), 0);
+        y.back();
+        due("it fits again", y.settled(-1), 0);
+        BaleTallies z = Checks.with("bB:1*1;bC:1*1;bD:4*1;bE:4*1;t0@0:X#4;~XB;~XC;");
+        Checks.law(z, "s");
+        due("B or C", z.settled(-1), 3 + 1 + 4 + 4);
+        due("B", z.settled(0), 0);
+        z.back();
+        z.back();
+        Checks.text(z, "bB:1*1;bC:1*1;bD:4*1;bE:4*1;t0@0:X#4;~XD;~XE;");
+        Checks.law(z, "s");
+        due("D or E now", z.settled(-1), 1 + 1 + 0 + 4);
+        due("D", z.settled(0), 2);
+        z.remark(2, 0, 4);
+        due("E, as D has none DUE", z.settled(0), 3);
+        due("E", z.settled(-1), 1 + 1);
+    }
+
     private static void curedByLimit() {
         c.part("CURED, if it is READ then");
         BaleTallies x = Checks.with("bAB:1*1;t0@0:XY#1;");
@@ -340,6 +371,11 @@ public final class ReadBoundsTest {
         due("by B it is DOUBTFUL, by Q READ", z.cure(0), 256 * 'X' + 'Q');
         due("no such LINE", z.cure(1), -1);
         due("no such LINE", z.cure(-1), -1);
+        BaleTallies w = Checks.with("bQQQQ:1*1;bRRRR:1*1;bAB:1*1;t0@0:XY#1;t0@0:AC#1;t0@0:RRR#1;");
+        due("as the last BILL", w.cure(0), 256 * 'X' + 'A');
+        due("READ as the last BILL", w.read(1), 2);
+        due("READ as the last BILL", w.cure(1), -1);
+        due("READ as the one between", w.cure(2), -1);
     }
 
     private static void curedSigns() {
