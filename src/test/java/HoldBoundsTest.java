@@ -11,6 +11,7 @@ public final class HoldBoundsTest {
         mostAgainst();
         holdsApart();
         hold();
+        notRead();
         unlikeMarks();
         close();
         blameOfTheShip();
@@ -158,6 +159,21 @@ public final class HoldBoundsTest {
         x.back();
         x.back();
         due("taken back", x.hold(4, 5), 60);
+    }
+
+    private static void notRead() {
+        c.part("26 hold: LINES in it that are not READ");
+        BaleTallies x = Checks.with("bAAAA:9*1;bBBBB:9*1;bCCCC:9*1;t0@0:AAAA#1;t1@0:BBBB#1;t0@0:CCCC#1;t1@0:AABB#1;t0@0:QQ#1;"
+            + "t0@1:CCCC#1;t1@2:QQ#1;t1@2:QQ#1;");
+        due("two STRANGE ones", x.hold(0, 5), 2);
+        due("none", x.hold(1, 5), 0);
+        due("like SEEN marks are counted as LINES", x.hold(2, 5), 2);
+        due("empty", x.hold(3, 5), 0);
+        x.limit(6);
+        due("one is DOUBTFUL now", x.hold(0, 5), 2);
+        due("one is DOUBTFUL now", x.is(10), 1);
+        x.limit(0);
+        due("by LIMIT 0 the others are READ", x.hold(0, 5), 2);
     }
 
     private static void unlikeMarks() {

@@ -254,6 +254,12 @@ public final class MatchBoundsTest {
         z.limit(0);
         due("the nearer BILL, though its number is higher", z.brought(12, 1), 1);
         due("none for the other", z.brought(12, 0), 0);
+        due("BEST, to the nearer one", z.best(1), 2);
+        BaleTallies w = Checks.with("bXAC:1*1;bAB:1*1;bAD:1*1;t0@0:AC#1;t1@0:AC#1;");
+        w.limit(0);
+        due("the nearer BILL, whose number is less", w.brought(12, 0), 1);
+        due("BEST, to the nearer one", w.best(1), 2);
+        due("BEST, one bale", w.best(0), 1);
     }
 
     private static void best() {
